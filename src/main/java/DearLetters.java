@@ -30,8 +30,8 @@ public final class DearLetters {
     private final Town town = new Town();
     private final Reading reading = new Reading();
     private final Ledger ledger = new Ledger();
-    private final Routes routes = new Routes(town);
-    private final Fits fits = new Fits(town);
+    private final Routes routes = new Routes();
+    private final Fits fits = new Fits();
     private final int[] tally = new int[SIZE + 1];
     private int latest;
     private int told;
@@ -342,7 +342,7 @@ public final class DearLetters {
         if (refusal != TAKEN) {
             return refusal;
         }
-        routes.walkOf(town.now.letters[k]);
+        routes.walkOf(town, town.now.letters[k]);
         if (!routes.cheap.there) {
             return NONE;
         }
@@ -355,7 +355,7 @@ public final class DearLetters {
         if (refusal != TAKEN) {
             return refusal;
         }
-        routes.walkOf(town.now.letters[k]);
+        routes.walkOf(town, town.now.letters[k]);
         if (!routes.soon.there) {
             return NONE;
         }
@@ -369,7 +369,7 @@ public final class DearLetters {
         if (refusal != TAKEN) {
             return refusal;
         }
-        routes.walkOf(town.now.letters[k]);
+        routes.walkOf(town, town.now.letters[k]);
         told = routes.all;
         return routes.coming;
     }
@@ -379,7 +379,7 @@ public final class DearLetters {
         if (refusal != TAKEN) {
             return refusal;
         }
-        routes.walkOf(town.now.letters[k]);
+        routes.walkOf(town, town.now.letters[k]);
         return routes.coming == 0 ? 0 : routes.onEach;
     }
 
@@ -388,14 +388,14 @@ public final class DearLetters {
         if (refusal != TAKEN) {
             return refusal;
         }
-        routes.walkOf(town.now.letters[k]);
+        routes.walkOf(town, town.now.letters[k]);
         if (routes.coming > 0) {
             return 0;
         }
         if (routes.all > 0) {
             return 3;
         }
-        return routes.isLinked() ? 2 : 1;
+        return routes.isLinked(town) ? 2 : 1;
     }
 
     public int needs(int k) {
@@ -403,7 +403,7 @@ public final class DearLetters {
         if (refusal != TAKEN) {
             return refusal;
         }
-        routes.walkOf(town.now.letters[k]);
+        routes.walkOf(town, town.now.letters[k]);
         return routes.all == 0 || routes.leastNeed > MOST_NEED ? NONE : routes.leastNeed;
     }
 
@@ -413,7 +413,7 @@ public final class DearLetters {
             return refusal;
         }
         Letter letter = town.now.letters[k];
-        routes.lookAt(letter);
+        routes.lookAt(town, letter);
         int who = NONE;
         int least = 0;
         for (int x = 0; x < town.bearers; x++) {
@@ -421,7 +421,7 @@ public final class DearLetters {
             if (x == letter.holder || town.kinds[x] == READER && x != letter.reader) {
                 continue;
             }
-            routes.walkWithLoan(x, LOAN);
+            routes.walkWithLoan(town, x, LOAN);
             if (routes.cheap.there && (who == NONE || routes.cheap.price < least)) {
                 who = x;
                 least = routes.cheap.price;
@@ -438,7 +438,7 @@ public final class DearLetters {
         if (refusal != TAKEN) {
             return refusal;
         }
-        routes.lookAt(town.now.letters[k]);
+        routes.lookAt(town, town.now.letters[k]);
         int open = (1 << town.paths) - 1 & ~town.now.snow;
         for (int fallen = 0; fallen <= town.paths; fallen++) {
             int snow = leastBlock(open, fallen);
@@ -489,7 +489,7 @@ public final class DearLetters {
                 if (x == y) {
                     continue;
                 }
-                routes.walkNew(x, y);
+                routes.walkNew(town, x, y);
                 if (!routes.cheap.there) {
                     none++;
                 } else if (v < routes.cheap.price) {
@@ -505,7 +505,7 @@ public final class DearLetters {
         if (!isPair(x, y) || w < 0 || w > MOST_WORTH) {
             return BAD;
         }
-        routes.walkNew(x, y);
+        routes.walkNew(town, x, y);
         return routes.cheap.there && routes.cheap.price <= w ? routes.cheap.price : 0;
     }
 
@@ -524,7 +524,7 @@ public final class DearLetters {
         if (refusal != TAKEN) {
             return refusal;
         }
-        fits.search(x, rows[r]);
+        fits.search(town, x, rows[r]);
         told = fits.lasts;
         return fits.all;
     }
@@ -534,7 +534,7 @@ public final class DearLetters {
         if (refusal != TAKEN) {
             return refusal;
         }
-        fits.search(x, rows[r]);
+        fits.search(town, x, rows[r]);
         return fits.all == 0 ? 0 : fits.inEach;
     }
 
@@ -543,7 +543,7 @@ public final class DearLetters {
         if (refusal != TAKEN) {
             return refusal;
         }
-        fits.search(x, rows[r]);
+        fits.search(town, x, rows[r]);
         if (fits.all == 0) {
             return NONE;
         }
@@ -732,7 +732,7 @@ public final class DearLetters {
     /** The least set of so many open PATHS whose snow keeps the LETTER looked at from coming, or NONE. */
     private int leastBlock(int open, int fallen) {
         for (int snow = 0; snow < 1 << town.paths; snow++) {
-            if ((snow & ~open) == 0 && Integer.bitCount(snow) == fallen && !routes.comesUnder(snow)) {
+            if ((snow & ~open) == 0 && Integer.bitCount(snow) == fallen && !routes.comesUnder(town, snow)) {
                 return snow;
             }
         }
@@ -1312,7 +1312,6 @@ public final class DearLetters {
 
     /** All ROUTES of a LETTER, walked in the order of their numbers, so that of alike ones the first is kept. */
     private static final class Routes {
-        final Town town;
         final int[] near = new int[BEARERS];
         final int[] purses = new int[BEARERS];
         final int[] walk = new int[BEARERS];
@@ -1329,53 +1328,49 @@ public final class DearLetters {
         int onEach;
         int leastNeed;
 
-        Routes(Town where) {
-            town = where;
-        }
-
-        void lookAt(Letter letter) {
-            lookFrom(letter.holder, letter.reader, letter.paid);
+        void lookAt(Town town, Letter letter) {
+            lookFrom(town, letter.holder, letter.reader, letter.paid);
             worthToday = letter.worthOn(town.now.day);
             fall = letter.fall;
             delay = letter.soldOn == town.now.day ? 1 : 0;
         }
 
-        private void lookFrom(int x, int y, int price) {
+        private void lookFrom(Town town, int x, int y, int price) {
             from = x;
             to = y;
             paid = price;
             System.arraycopy(town.now.purses, 0, purses, 0, BEARERS);
-            linkUnder(town.now.snow);
+            linkUnder(town, town.now.snow);
         }
 
-        private void linkUnder(int snow) {
+        private void linkUnder(Town town, int snow) {
             for (int x = 0; x < town.bearers; x++) {
                 near[x] = town.near(x, snow);
             }
         }
 
-        void walkOf(Letter letter) {
-            lookAt(letter);
-            walkAll();
+        void walkOf(Town town, Letter letter) {
+            lookAt(town, letter);
+            walkAll(town);
         }
 
         /** Only prices matter for a LETTER that is not yet sent, so it is walked as one worth nothing. */
-        void walkNew(int x, int y) {
-            lookFrom(x, y, 0);
+        void walkNew(Town town, int x, int y) {
+            lookFrom(town, x, y, 0);
             worthToday = 0;
             fall = 0;
             delay = 0;
-            walkAll();
+            walkAll(town);
         }
 
-        void walkWithLoan(int x, int loan) {
+        void walkWithLoan(Town town, int x, int loan) {
             int was = purses[x];
             purses[x] = loan;
-            walkAll();
+            walkAll(town);
             purses[x] = was;
         }
 
-        private void walkAll() {
+        private void walkAll(Town town) {
             all = 0;
             coming = 0;
             onEach = -1;
@@ -1383,27 +1378,27 @@ public final class DearLetters {
             cheap.there = false;
             soon.there = false;
             walk[0] = from;
-            walkOn(0, 1 << from, paid);
+            walkOn(town, 0, 1 << from, paid);
         }
 
-        private void walkOn(int sales, int used, int paidHere) {
+        private void walkOn(Town town, int sales, int used, int paidHere) {
             int x = walk[sales];
             int price = priceAsked(town.kinds[x], paidHere);
             int next = sales + 1;
             for (int y = 0; y < town.bearers && next < BEARERS; y++) {
-                if (!buys(x, y, used, price)) {
+                if (!buys(town, x, y, used, price)) {
                     continue;
                 }
                 walk[next] = y;
                 if (y == to) {
                     arrive(next, used, price);
                 } else {
-                    walkOn(next, used | 1 << y, price);
+                    walkOn(town, next, used | 1 << y, price);
                 }
             }
         }
 
-        private boolean buys(int x, int y, int used, int price) {
+        private boolean buys(Town town, int x, int y, int used, int price) {
             return hasBit(near[x], y) && !hasBit(used, y) && purses[y] >= price
                 && (y == to || town.kinds[y] != READER);
         }
@@ -1430,19 +1425,19 @@ public final class DearLetters {
             return price == 0 ? 0 : price + fall * (delay + sales - 1);
         }
 
-        boolean comesUnder(int moreSnow) {
-            linkUnder(town.now.snow | moreSnow);
-            return comesFrom(from, 0, 1 << from, paid);
+        boolean comesUnder(Town town, int moreSnow) {
+            linkUnder(town, town.now.snow | moreSnow);
+            return comesFrom(town, from, 0, 1 << from, paid);
         }
 
-        private boolean comesFrom(int x, int sales, int used, int paidHere) {
+        private boolean comesFrom(Town town, int x, int sales, int used, int paidHere) {
             int price = priceAsked(town.kinds[x], paidHere);
             int next = sales + 1;
             for (int y = 0; y < town.bearers && next < BEARERS; y++) {
-                if (!buys(x, y, used, price)) {
+                if (!buys(town, x, y, used, price)) {
                     continue;
                 }
-                if (y == to ? needFor(next, price) <= worthToday : comesFrom(y, next, used | 1 << y, price)) {
+                if (y == to ? needFor(next, price) <= worthToday : comesFrom(town, y, next, used | 1 << y, price)) {
                     return true;
                 }
             }
@@ -1450,7 +1445,7 @@ public final class DearLetters {
         }
 
         /** Whether there is a row from the one to the other, whatever is in the PURSES. */
-        boolean isLinked() {
+        boolean isLinked(Town town) {
             int reached = 1 << from;
             for (int round = 0; round < BEARERS; round++) {
                 for (int x = 0; x < town.bearers; x++) {
@@ -1465,26 +1460,21 @@ public final class DearLetters {
 
     /** All rows of BEARERS whose sales fit a ROW of prices, in the order of their numbers. */
     private static final class Fits {
-        final Town town;
         final int[] walk = new int[BEARERS];
         final int[] firstRow = new int[BEARERS];
         int all;
         int lasts;
         int inEach;
 
-        Fits(Town where) {
-            town = where;
-        }
-
-        void search(int x, Row prices) {
+        void search(Town town, int x, Row prices) {
             all = 0;
             lasts = 0;
             inEach = -1;
             walk[0] = x;
-            fitOn(prices, 0, 1 << x, 0);
+            fitOn(town, prices, 0, 1 << x, 0);
         }
 
-        private void fitOn(Row prices, int sales, int used, int paid) {
+        private void fitOn(Town town, Row prices, int sales, int used, int paid) {
             int x = walk[sales];
             if (sales >= prices.size) {
                 arrive(x, sales, used);
@@ -1499,7 +1489,7 @@ public final class DearLetters {
             for (int y = 0; y < town.bearers && next < BEARERS; y++) {
                 if (hasBit(near, y)) {
                     walk[next] = y;
-                    fitOn(prices, next, used | 1 << y, prices.places[sales]);
+                    fitOn(town, prices, next, used | 1 << y, prices.places[sales]);
                 }
             }
         }

@@ -166,6 +166,9 @@ public final class LettersTest {
         x.sell(1, 5);
         x.days(1);
         Due.is("can, read", x.can(1), 0);
+        DearLetters poor = Due.town("b00 b10 w01");
+        poor.send(1, 0, 9, 0);
+        Due.is("can, 0 has none", poor.can(0), 0);
         Due.refused("can -1", x, () -> x.can(-1), BAD);
         Due.finding("can 2", x, () -> x.can(2), Due.BEYOND);
     }

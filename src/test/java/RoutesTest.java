@@ -170,13 +170,18 @@ public final class RoutesTest {
         DearLetters s = Due.town("b10 s10 b10 w01 w12");
         s.send(0, 2, 0, 9);
         Due.is("for nothing, nothing", s.needs(0), 0);
-        needsNoMoreThan999();
+        DearLetters most = letterFor994(5);
+        Due.is("994 and 5 are 999", most.needs(0), 999);
+        DearLetters more = letterFor994(6);
+        Due.refused("994 and 6 are above 999", more, () -> more.needs(0), NONE);
+        more.days(1);
+        Due.is("994 are not", more.needs(0), 994);
     }
 
-    /** The letter goes to and fro till the usurer got it for 494, and asks 994. */
-    private static void needsNoMoreThan999() {
+    /** A letter that went to and fro till the usurer got it for 494, and asks 994, from tomorrow on. */
+    private static DearLetters letterFor994(int fall) {
         DearLetters x = Due.town("u99 b99 m99 u99 b99 w01 w02 w03 w04");
-        x.send(0, 4, 0, 9);
+        x.send(0, 4, 0, fall);
         int[] buyers = {1, 0, 2, 0, 2, 0, 2, 0, 3, 0};
         int[] prices = {6, 7, 20, 23, 52, 55, 116, 119, 244, 494};
         for (int i = 0; i < buyers.length; i++) {
@@ -187,9 +192,7 @@ public final class RoutesTest {
             Due.is("sale " + i, x.sell(0, buyers[i]), prices[i]);
         }
         Due.told("there is a route", x, x.comes(0), 0, 1);
-        Due.refused("994 and 9 are above 999", x, () -> x.needs(0), NONE);
-        x.days(1);
-        Due.is("994 are not", x.needs(0), 994);
+        return x;
     }
 
     private static void promise33() {
@@ -209,6 +212,9 @@ public final class RoutesTest {
         DearLetters z = Due.town("b10 b10 s00 b10 w01 w13 w02 w23");
         z.send(0, 3, 0, 0);
         Due.told("makes it cheaper", z, z.lend(0), 2, 0);
+        DearLetters back = Due.town("b00 b10 b10 w01 w02");
+        back.send(1, 2, 0, 0);
+        Due.told("lend to 0", back, back.lend(0), 0, 2);
         DearLetters r = Due.town("r10 b10 b10 b10 w01 w12 w23");
         r.send(1, 3, 0, 0);
         Due.told("a reader is never between", r, r.lend(0), 2, 2);
@@ -230,6 +236,13 @@ public final class RoutesTest {
         Due.told("all three", twice, twice.block(0), 3, 7);
         twice.snow(1, 1);
         Due.told("both others", twice, twice.block(0), 2, 5);
+        DearLetters falls = Due.town("b10 b10 b10 b10 w01 w12 w23 w03");
+        falls.send(0, 3, 6, 2);
+        Due.told("the long way falls too far", falls, falls.block(0), 1, 8);
+        falls.send(0, 3, 7, 2);
+        Due.told("the long way is just worth it", falls, falls.block(1), 2, 1 + 8);
+        falls.sell(1, 1);
+        Due.told("sold today, from tomorrow on", falls, falls.block(1), 2, 1 + 2);
         DearLetters late = Due.town("b10 b10 b10 w12 w01");
         late.send(0, 2, 9, 0);
         Due.told("the least of one", late, late.block(0), 1, 1);

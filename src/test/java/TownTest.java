@@ -72,7 +72,9 @@ public final class TownTest {
         x.days(3);
         x.snow(2, 1);
         x.purse(0, 77);
+        x.keep(0);
         x.keep(1);
+        x.keep(2);
         Due.write(x, 1, "m05 b06 w01 w10");
         Due.is("town anew", x.town(1), 2);
         int[] counts = {2, 2, 0, 0, 0, 0, 0, 2, 0};
@@ -83,7 +85,9 @@ public final class TownTest {
         Due.told("town anew: kind", x, x.bearer(0, 0), 1, 1);
         Due.is("town anew: gain", x.gain(0), 1);
         Due.is("town anew: no gain", x.asked(), 0);
-        Due.finding("kept towns are gone", x, () -> x.on(1), Due.NOTHING);
+        Due.finding("kept town 0 is gone", x, () -> x.on(0), Due.NOTHING);
+        Due.finding("kept town 1 is gone", x, () -> x.on(1), Due.NOTHING);
+        Due.finding("kept town 2 is gone", x, () -> x.on(2), Due.NOTHING);
         Due.write(x, 1, "m05 b06 w0");
         Due.refused("town of a fault", x, () -> x.town(1), STATE);
         Due.is("a town of a fault changes none", x.count(0), 2);
@@ -148,6 +152,12 @@ public final class TownTest {
         Due.is("read", x.sell(0, 3), 1000);
         Due.is("reader, one read", x.mark(3, 3), 1);
         Due.is("saint, one sold", x.mark(5, 5), 6);
+        x.send(0, 5, 50, 0);
+        Due.is("read by the saint", x.sell(3, 5), 1001);
+        Due.is("saint, one read", x.mark(5, 5), 6);
+        DearLetters friends = Due.town("s00 f00 w01");
+        Due.is("friend 0 beside 1", friends.mark(1, 2), 1);
+        Due.is("friend 1 beside 0", friends.mark(0, 2), 1);
         x.snow(1, 1);
         x.snow(4, 1);
         Due.is("no friend beside through snow", x.mark(5, 2), 0);

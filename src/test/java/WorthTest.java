@@ -99,6 +99,8 @@ public final class WorthTest {
         Due.is("fake", x.fake(0, 2, 99), 8);
         Due.is("fake, just worth it", x.fake(0, 2, 8), 8);
         Due.is("fake, too dear", x.fake(0, 2, 7), 0);
+        Due.is("fake, worth nothing", x.fake(0, 1, 0), 0);
+        Due.is("fake, worth one", x.fake(0, 1, 1), 1);
         Due.is("fake, an empty purse", x.fake(0, 3, 99), 0);
         Due.is("fake by who can't pay", x.fake(3, 0, 99), 8);
         Due.refused("fake by -1", x, () -> x.fake(-1, 0, 5), BAD);
