@@ -17,6 +17,7 @@ public final class DearLetters {
     private static final int LAST_DAY = 99, DAYS_AT_ONCE = 20, LUCKY_DAYS = 40;
     private static final int MOST_PURSE = 999, MOST_WORTH = 99, MOST_FALL = 9, MOST_NEED = 999, LOAN = 99;
     private static final int MOST_PRICES = 6, FAR = 20;
+    private static final int MISERS_PART = 3;
     private static final int BEARER_FACTS = 4, LETTER_FACTS = 5, COUNTS = 9;
     private static final long LOT_FACTOR = 48271L, LOT_MODULUS = 2147483647L;
 
@@ -802,11 +803,11 @@ public final class DearLetters {
     private static int priceAsked(int kind, int paid) {
         switch (kind) {
             case MISER:
-                return paid + 3;
+                return paid + MISERS_PART;
             case FRIEND:
                 return paid;
             case USURER:
-                return 2 * priceAsked(MISER, paid);
+                return 2 * (paid + MISERS_PART);
             case SAINT:
                 return 0;
             default:
