@@ -29,6 +29,7 @@ public final class FaceTest {
         fields();
         classesInside();
         source();
+        faceOfTheDocument();
         Due.end("FaceTest");
     }
 
@@ -116,6 +117,24 @@ public final class FaceTest {
                 Due.is("lines of " + lines[start].strip(), Math.max(60, i - start), 60);
                 start = i;
             }
+        }
+    }
+
+    /** Each line of the document's face stands in the source, in the same order and with the same names. */
+    private static void faceOfTheDocument() throws IOException {
+        Path document = Path.of("../shared/DOC.md");
+        if (!Files.exists(document)) {
+            return;
+        }
+        Matcher face = Pattern.compile("(?s)```java\n(.*?)```").matcher(Files.readString(document));
+        Due.is("the document has a face", face.find() ? 1 : 0, 1);
+        List<String> wanted = face.group(1).lines().filter(line -> line.contains("public"))
+            .map(line -> line.replaceAll(" \\{$|;$", "")).toList();
+        List<String> open = Files.readAllLines(Path.of("src/main/java/DearLetters.java")).stream()
+            .filter(line -> line.contains("public")).map(line -> line.replaceAll(" \\{$|;$", "")).toList();
+        Due.is("lines of the face", open.size(), wanted.size());
+        for (int i = 0; i < Math.min(open.size(), wanted.size()); i++) {
+            Due.is("'" + open.get(i) + "' is '" + wanted.get(i) + "'", open.get(i).equals(wanted.get(i)) ? 1 : 0, 1);
         }
     }
 }
